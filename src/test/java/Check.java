@@ -1,0 +1,64 @@
+/** Compares answers with those that are due, and ends the test with 1 if one was wrong. */
+final class Check {
+    /** A call that may throw. */
+    interface Call {
+        void make();
+    }
+
+    private final String test;
+    private int wrong = 0;
+
+    Check(String test) {
+        this.test = test;
+    }
+
+    void due(String call, long got, long want) {
+        if (got != want) {
+            fail(call + " answered " + got + ", due is " + want);
+        }
+    }
+
+    void due(String call, double got, double want) {
+        if (got != want) {
+            fail(call + " answered " + got + ", due is " + want);
+        }
+    }
+
+    void bounds(String call, Call made) {
+        dueThrow(call, made, IndexOutOfBoundsException.class);
+    }
+
+    void argument(String call, Call made) {
+        dueThrow(call, made, IllegalArgumentException.class);
+    }
+
+    void state(String call, Call made) {
+        dueThrow(call, made, IllegalStateException.class);
+    }
+
+    private void dueThrow(String call, Call made, Class<? extends RuntimeException> want) {
+        try {
+            made.make();
+        } catch (RuntimeException e) {
+            if (e.getClass() != want) {
+                fail(call + " threw " + e + ", due is " + want.getSimpleName());
+            }
+            return;
+        }
+        fail(call + " threw nothing, due is " + want.getSimpleName());
+    }
+
+    void fail(String what) {
+        wrong++;
+        if (wrong <= 50) {
+            System.out.println(test + ": " + what);
+        }
+    }
+
+    void end() {
+        if (wrong > 0) {
+            System.out.println(test + ": " + wrong + " wrong");
+            System.exit(1);
+        }
+    }
+}
