@@ -337,7 +337,8 @@ public final class StaticLink {
             for (int name = 0; name <= 7; name++) {
                 d = d * 31 + hiddenBy(p, name);
             }
-            for (int k = 0; k < codeLength(p) * 4; k++) {
+            int length = codeLength(p);
+            for (int k = 0; k < length * 4; k++) {
                 d = d * 31 + code(p, k / 4, k % 4);
             }
         }

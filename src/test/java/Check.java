@@ -24,6 +24,12 @@ final class Check {
         }
     }
 
+    void due(String call, String got, String want) {
+        if (!got.equals(want)) {
+            fail(call + " answered " + got + ", due is " + want);
+        }
+    }
+
     void bounds(String call, Call made) {
         dueThrow(call, made, IndexOutOfBoundsException.class);
     }
