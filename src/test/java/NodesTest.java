@@ -93,6 +93,7 @@ public final class NodesTest {
         refused(x, 9, 0, e, -2);
         refused(x, 8, 0, e, 0);
         refused(x, 16, 10, e, s);
+        nothingElse(x, e, f, s);
         int sum = b.add(e, f);
         refused(x, 19, 0, e, 0);
         refused(x, 3, 0, f, sum);
@@ -107,6 +108,30 @@ public final class NodesTest {
         refused(x, 8, 0, argument, 0);
         CHECK.due("an ARRAY NAME is handed on", x.node(9, 0, array, -1), print + 3);
         CHECK.due("IF with both", x.node(15, print + 1, call, b.leave(2)), print + 5);
+    }
+
+    // What is not told is 0.
+    private static void nothingElse(StaticLink x, int e, int f, int s) {
+        int[] others = {1, -1, e, s};
+        for (int other : others) {
+            if (other == 0) {
+                continue;
+            }
+            for (int kind = 3; kind <= 7; kind++) {
+                refused(x, kind, other, e, f);
+            }
+            refused(x, 2, 0, e, other);
+            refused(x, 8, 0, -1, other);
+            refused(x, 9, other, e, -1);
+            refused(x, 10, 0, other, 0);
+            refused(x, 10, 0, 0, other);
+            refused(x, 11, 0, other, 0);
+            refused(x, 11, 0, 0, other);
+            refused(x, 13, 0, e, other);
+            refused(x, 18, 0, e, other);
+            refused(x, 18, other, e, 0);
+            refused(x, 19, other, e, 0);
+        }
     }
 
     private static void tooMany() {
@@ -394,11 +419,26 @@ public final class NodesTest {
         b.body(3, sister, b.leave(4));
         int main = b.x.ofNode(b.x.ofProcedure(0, 6), 3);
         CHECK.due("BREAKS", b.faults(), "6 0 " + main + "; 6 2 " + beside + "; 6 3 " + sister);
+        int zero = b.leave(0);
+        b.x.body(2, zero);
+        CHECK.due("a LABEL that no LOOP has", b.x.fault(1, 2), zero);
+        b.x.body(2, wholeOf(b, beside));
         int inNone = b.loop(2, b.number(1), b.print(b.number(1)));
         CHECK.due("a LOOP IN none", b.x.many(3), 3);
         b.x.body(0, inNone);
         CHECK.due("a LOOP with 2 around, none with 4", b.faults(), "6 1 "
             + b.x.ofNode(b.x.ofProcedure(1, 6), 3) + "; 6 3 " + sister + "; 6 3 " + (sister + 1));
+    }
+
+    /** The NODE around all that is around n. */
+    private static int wholeOf(Build b, int n) {
+        int at = n;
+        for (int k = n + 1; k < b.x.many(1); k++) {
+            boolean isPart = b.x.ofNode(k, 0) == 12
+                && (b.x.ofNode(k, 2) == at || b.x.ofNode(k, 3) == at);
+            at = isPart ? k : at;
+        }
+        return at;
     }
 
     private static void orderOfFaults() {

@@ -272,7 +272,7 @@ public final class RandomProgramsTest {
                 call = p == 0 ? -1 : call(p, limit, 3);
                 return call < 0 ? print(p, limit) : twin.node(18, 0, call, 0);
             case 11:
-                return p == 0 ? print(p, limit)
+                return p == 0 && pick(4) > 0 ? print(p, limit)
                     : twin.node(18, 0, expression(p, limit, 3), 0);
             case 12: case 13:
                 name = name(p, "8");

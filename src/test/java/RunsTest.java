@@ -19,6 +19,7 @@ public final class RunsTest {
         tails();
         tailsEndTheirLoops();
         traps();
+        behindATrap();
         trapsOfCalls();
         steps();
         printing();
@@ -73,8 +74,9 @@ public final class RunsTest {
         int big = b.mul(b.mul(b.number(999), b.number(999)), b.mul(b.number(999), b.number(999)));
         b.body(0, b.set(0, big), b.print(b.use(0)), b.print(b.div(b.number(-7), b.number(2))),
             b.print(b.div(b.number(7), b.number(-2))), b.print(b.less(b.number(1), b.number(1))),
-            b.print(b.sub(b.number(1), b.number(3))));
-        run(b, "arithmetic", 0, (999 * 999 * 999 * 999) + " -3 -3 0 -2");
+            b.print(b.sub(b.number(1), b.number(3))),
+            b.print(b.less(b.use(0), b.add(b.use(0), b.number(1)))));
+        run(b, "arithmetic", 0, (999 * 999 * 999 * 999) + " -3 -3 0 -2 1");
         Build c = new Build();
         c.x.variable(0, 0, 0, 0);
         // Doubled 31 times, 1 is the least int: it is its own opposite.
@@ -395,6 +397,19 @@ public final class RunsTest {
         c.x.limits(1, 1);
         run(c, "STEPS", 6, "");
         CHECK.due("ofRun", c.ofRun(), "6 " + turn + " 0 1 0 1 0 1 1 0");
+    }
+
+    private static void behindATrap() {
+        Build b = new Build();
+        b.x.variable(0, 0, 0, 0);
+        b.x.procedure(0, 1);
+        b.body(1, b.loop(0, b.number(1), b.print(b.div(b.number(7), b.use(0)))));
+        b.body(0, b.set(0, b.number(0)), b.give(b.add(b.number(3), b.call(1))));
+        run(b, "a TRAP far in", 1, "");
+        b.x.body(1, b.give(b.number(4)));
+        run(b, "a run behind it", 0, "");
+        CHECK.due("MAIN gave", b.x.ofRun(9), 7);
+        CHECK.due("ofRun", b.ofRun(), "0 -1 -1 9 0 2 0 2 2 7");
     }
 
     private static void trapsOfCalls() {
