@@ -6,10 +6,16 @@ final class Check {
     }
 
     private final String test;
+    private String sentence = "";
     private int wrong = 0;
 
     Check(String test) {
         this.test = test;
+    }
+
+    /** The sentence of the document that the checks behind this are about. */
+    void says(String nowSentence) {
+        sentence = " (" + nowSentence + ")";
     }
 
     void due(String call, long got, long want) {
@@ -57,7 +63,7 @@ final class Check {
     void fail(String what) {
         wrong++;
         if (wrong <= 50) {
-            System.out.println(test + ": " + what);
+            System.out.println(test + sentence + ": " + what);
         }
     }
 
