@@ -1095,8 +1095,6 @@ public final class StaticLink {
         static final int OP_PUSH = 1;
         static final int OP_GET = 2;
         static final int OP_PICK = 3;
-        static final int OP_ADD = 4;
-        static final int OP_LESS = 8;
         static final int OP_GO = 9;
         static final int OP_GOTO = 10;
         static final int OP_JUMPTO = 11;
@@ -1400,6 +1398,9 @@ public final class StaticLink {
 
     /** Rows of numbers, as many as are needed; what was made once serves all later runs. */
     private static final class Table {
+        // Far more than the some 80,000 that the dearest run of MOST_STEPS can fill.
+        private static final int MOST_NUMBERS = 1 << 20;
+
         private final int width;
         private int[] numbers;
         int count = 0;
@@ -1409,11 +1410,14 @@ public final class StaticLink {
             this.numbers = new int[64 * width];
         }
 
-        /** A new row, of zeros: its number. */
+        /** A new row, of zeros: its number; NONE, which at() and put() know, if none is left. */
         int add() {
             int end = (count + 1) * width;
-            if (end > numbers.length) {
+            if (end > numbers.length && numbers.length <= MOST_NUMBERS / 2) {
                 numbers = Arrays.copyOf(numbers, numbers.length * 2);
+            }
+            if (end > numbers.length) {
+                return NONE;
             }
             for (int k = end - width; k < end; k++) {
                 numbers[k] = 0;

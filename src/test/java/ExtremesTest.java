@@ -11,6 +11,7 @@ public final class ExtremesTest {
         manyArrays();
         deepCalls();
         manyObjects();
+        manyCalls();
         CHECK.end();
     }
 
@@ -155,21 +156,58 @@ public final class ExtremesTest {
         CHECK.due("HOPS of LEAVE", b.x.code(9, 0, 1), 9);
     }
 
-    // The dearest calls, as often as they can be made on one object, make nothing new.
+    // The dearest calls, as often as they can be made on one object, make nothing new: what was
+    // made for the first of them serves all the others.
     private static void manyObjects() {
         Build b = new Build();
-        b.x.variable(0, 0, 0, 0);
-        b.body(0, b.loop(0, b.number(1), b.print(b.use(0))));
+        b.x.procedure(0, 6);
+        b.x.procedure(0, 7);
+        for (int k = 0; k < 6; k++) {
+            b.x.variable(1, k, 1, 8);
+            b.x.variable(2, k, 1, 8);
+        }
+        b.x.body(2, b.give(b.number(1)));
+        b.x.body(1, b.perform(b.call(7)));
+        b.x.body(0, b.loop(0, b.number(1), b.print(b.call(6))));
         b.x.limits(3000, 40);
+        CHECK.due("run()", b.x.run(), 6);
+        CHECK.due("FRAMES", b.x.ofRun(5) > 700 ? 1 : 0, 1);
         long want = b.x.digest();
         long before = used();
-        for (int k = 0; k < 500; k++) {
+        for (int k = 0; k < 160; k++) {
             CHECK.due("digest()", b.x.digest(), want);
+            CHECK.due("run()", b.x.run(), 6);
+            want = b.x.digest();
         }
         long made = used() - before;
         if (made > 8_000_000) {
-            CHECK.fail("500 digests made " + made + " bytes");
+            CHECK.fail("as many calls as there can be made " + made + " bytes");
         }
+    }
+
+    private static void manyCalls() {
+        CHECK.says("An object is used for at most 512 calls after it has been made");
+        StaticLink x = new StaticLink();
+        int calls = 0;
+        for (int p = 0; p < 9; p++) {
+            CHECK.due("procedure", x.procedure(p, p), p + 1);
+            calls++;
+        }
+        for (int k = 0; k < 110; k += 2) {
+            CHECK.due("node", x.node(0, k, 0, 0), k);
+            CHECK.due("node", x.node(19, 0, k, 0), k + 1);
+            calls += 2;
+        }
+        for (int p = 0; p < 10; p++) {
+            CHECK.due("body", x.body(p, 2 * p + 1), -1);
+            calls++;
+        }
+        for (int runs = 1; calls < 511; runs++) {
+            CHECK.due("run", x.run(), 0);
+            CHECK.due("runs", x.ofRun(10), runs);
+            calls += 2;
+        }
+        CHECK.due("the 512th call", x.body(9, 109), 19);
     }
 
     private static long used() {
