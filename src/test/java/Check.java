@@ -36,6 +36,12 @@ final class Check {
         }
     }
 
+    /** Runs the program: its TRAP, and what it PRINTS. */
+    void run(Build b, String what, int trap, String printed) {
+        due(what + ": run()", b.x.run(), trap);
+        due(what + ": printed", b.printed(), printed);
+    }
+
     void bounds(String call, Call made) {
         dueThrow(call, made, IndexOutOfBoundsException.class);
     }

@@ -59,8 +59,8 @@ public final class CodeSentencesTest {
     }
 
     private static void escapes() {
-        CHECK.says("Something with a PLACE in a PROCEDURE ESCAPES, if a NODE whose NAME is this, of "
-            + "whatever kind, is IN a PROCEDURE INSIDE it, and this one, or one that this is "
+        CHECK.says("Something with a PLACE in a PROCEDURE ESCAPES, if a NODE whose NAME is this, "
+            + "of whatever kind, is IN a PROCEDURE INSIDE it, and this one, or one that this is "
             + "INSIDE (but only such as are INSIDE the first one), is HANDED ON");
         // PROCEDURES 1 in MAIN, 2 in 1, 3 in 2; the NAME is 1's, and is used in one of them. Which
         // sets of those that are HANDED ON make it ESCAPE, by where the USE is.

@@ -272,7 +272,8 @@ public final class NamesSentencesTest {
                 CHECK.state(one + ", then " + other, () -> declareOne(x, other, 7));
                 x.procedure(0, 7);
                 CHECK.due("elsewhere it may be", x.variable(2, 7, 0, 0), 0);
-                CHECK.due("what it is there, still", x.ofName(1, 7, 3), new int[] {10, 0, 6, 9}[one]);
+                CHECK.due("what it is there, still", x.ofName(1, 7, 3),
+                    new int[] {10, 0, 6, 9}[one]);
             }
         }
         StaticLink y = new StaticLink();

@@ -607,8 +607,8 @@ public final class NodesSentencesTest {
     }
 
     private static void refNeedsWhatCouldBeSet() {
-        CHECK.says("REF needs a USE of what could be SET (so none that is unbound), or an AT; a REF "
-            + "that is handed a CONSTANT is 5, told of the CALL");
+        CHECK.says("REF needs a USE of what could be SET (so none that is unbound), or an AT; a "
+            + "REF that is handed a CONSTANT is 5, told of the CALL");
         // Of VALUE REF BYNAME COPY ARRAY PROC NUMBER ARRAY PROC CONSTANT PROCEDURE, unbound; what
         // a USE cannot be at all is told of the USE, too.
         String due = "005555055555";

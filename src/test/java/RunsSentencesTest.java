@@ -35,16 +35,11 @@ public final class RunsSentencesTest {
         CHECK.end();
     }
 
-    private static void run(Build b, String what, int trap, String printed) {
-        CHECK.due(what + ": run()", b.x.run(), trap);
-        CHECK.due(what + ": printed", b.printed(), printed);
-    }
-
     private static void itCallsMain() {
         CHECK.says("It CALLS MAIN");
         Build b = new Build();
         b.x.body(0, b.give(b.number(-7)));
-        run(b, "MAIN alone", 0, "");
+        CHECK.run(b, "MAIN alone", 0, "");
         CHECK.due("ofRun", b.ofRun(), "0 -1 -1 2 0 1 0 1 1 -7");
     }
 
@@ -73,7 +68,7 @@ public final class RunsSentencesTest {
         b.x.body(0, b.perform(b.call(15, b.number(0), b.number(2), b.number(0), b.number(2))));
         // 1, 2, 1, 2 are handed on; 1 is SET at first, 0 stays, and 2 at last.
         int want = (((((1 * 3 + 2) * 3 + 1) * 3 + 2) * 3 + 1) * 3 + 0) * 3 + 2;
-        run(b, "ten PLACES", 0, want + " 0 7 8");
+        CHECK.run(b, "ten PLACES", 0, want + " 0 7 8");
         b.x.passes(0);
         b.x.run();
         CHECK.due("CELLS", b.x.ofRun(6), 20);
@@ -92,7 +87,7 @@ public final class RunsSentencesTest {
             b.when(b.use(2), b.perform(b.call(1, b.sub(b.use(2), b.number(1)))), -1),
             b.print(b.call(3)), b.print(b.call(0))));
         b.x.body(0, b.perform(b.call(1, b.number(2))));
-        run(b, "named and taken", 0, "0 2 1 2 2 2");
+        CHECK.run(b, "named and taken", 0, "0 2 1 2 2 2");
     }
 
     private static void whatReturnGave() {
@@ -105,10 +100,10 @@ public final class RunsSentencesTest {
         b.x.body(0, b.seq(b.print(b.call(0, b.number(1))), b.print(b.call(0, b.number(0))),
             b.print(b.call(0, b.number(-4))),
             b.give(b.sub(b.call(0, b.number(0)), b.number(1)))));
-        run(b, "RETURN", 0, "5 0 0");
+        CHECK.run(b, "RETURN", 0, "5 0 0");
         CHECK.due("MAIN gave", b.x.ofRun(9), -1);
         b.x.body(0, b.perform(b.call(0, b.number(7))));
-        run(b, "no RETURN", 0, "");
+        CHECK.run(b, "no RETURN", 0, "");
         CHECK.due("MAIN gave", b.x.ofRun(9), 0);
     }
 
@@ -132,7 +127,7 @@ public final class RunsSentencesTest {
         b.body(0, b.print(b.sub(b.number(100), b.call(1, handed))),
             b.store(0, b.call(6, b.number(3)), b.call(6, b.number(8))),
             b.print(b.sub(b.call(6, b.at(0, b.number(3))), b.call(6, b.number(5)))));
-        run(b, "ARGUMENTS, b and c", 0, "2 3 4 5 114 3 8 8 5 3");
+        CHECK.run(b, "ARGUMENTS, b and c", 0, "2 3 4 5 114 3 8 8 5 3");
     }
 
     private static void value() {
@@ -144,7 +139,7 @@ public final class RunsSentencesTest {
         b.body(1, b.set(0, b.number(9)), b.print(b.use(2)), b.set(2, b.number(3)),
             b.print(b.use(2)), b.print(b.use(0)));
         b.body(0, b.set(0, b.number(5)), b.perform(b.call(1, b.use(0))), b.print(b.use(0)));
-        run(b, "VALUE", 0, "5 3 9 9");
+        CHECK.run(b, "VALUE", 0, "5 3 9 9");
     }
 
     private static void ref() {
@@ -162,7 +157,7 @@ public final class RunsSentencesTest {
             b.use(6))), b.print(b.use(6)));
         b.body(0, b.set(0, b.number(7)), b.perform(b.call(1, b.use(0), b.use(0))),
             b.perform(b.call(4, b.use(0), b.number(40))), b.print(b.use(0)));
-        run(b, "REF, a REF of a REF, of a VALUE", 0, "8 8 9 9 41 9 41 9");
+        CHECK.run(b, "REF, a REF of a REF, of a VALUE", 0, "8 8 9 9 41 9 41 9");
     }
 
     private static void refOfAt() {
@@ -173,7 +168,7 @@ public final class RunsSentencesTest {
             Build b = forRefs();
             int at = b.at(1, b.number(k));
             b.body(0, b.perform(b.call(2, b.call(6, b.number(1)), at, b.call(6, b.number(2)))));
-            run(b, "a place " + k, 2, "1");
+            CHECK.run(b, "a place " + k, 2, "1");
             CHECK.due("its NODE", b.x.ofRun(1), at);
             CHECK.due("its PROCEDURE", b.x.ofRun(2), 0);
             CHECK.due("CALLS: that of the first ARGUMENT alone", b.x.ofRun(5), 2);
@@ -182,7 +177,7 @@ public final class RunsSentencesTest {
         b.body(0, b.set(0, b.number(1)),
             b.perform(b.call(2, b.number(5), b.at(1, b.use(0)), b.call(6, b.number(2)))),
             b.print(b.at(1, b.number(0))), b.print(b.at(1, b.number(1))));
-        run(b, "the place is that of then", 0, "2 0 8");
+        CHECK.run(b, "the place is that of then", 0, "2 0 8");
     }
 
     private static Build forRefs() {
@@ -218,7 +213,7 @@ public final class RunsSentencesTest {
             b.body(1, b.set(0, b.number(50)), b.print(all));
             b.body(0, b.perform(b.call(1, b.add(b.call(3), b.use(0)))), b.print(b.use(0)));
             // Each time the CALL counts; and what it adds is MAIN's VARIABLE, not the other one.
-            run(b, "used " + used + " times", 0,
+            CHECK.run(b, "used " + used + " times", 0,
                 new String[] {"0 0", "1 8 1", "1 2 17 2", "1 2 3 27 3"}[used]);
         }
         Build c = new Build();
@@ -230,10 +225,10 @@ public final class RunsSentencesTest {
         c.body(0, c.perform(c.call(1, c.number(1), c.number(0))),
             c.perform(c.call(1, div, c.number(0))),
             c.perform(c.call(1, c.sub(c.number(3), c.number(1)), c.number(1))));
-        run(c, "what is not used does not trap", 0, "4 4 4 2");
+        CHECK.run(c, "what is not used does not trap", 0, "4 4 4 2");
         int used = c.div(c.number(1), c.number(0));
         c.body(0, c.perform(c.call(1, used, c.number(1))));
-        run(c, "what is used does", 1, "4");
+        CHECK.run(c, "what is used does", 1, "4");
         CHECK.due("its NODE", c.x.ofRun(1), used);
         CHECK.due("the PROCEDURE that this was IN", c.x.ofRun(2), 0);
     }
@@ -252,17 +247,17 @@ public final class RunsSentencesTest {
                 b.print(b.at(2, b.number(last))), b.print(b.at(0, b.number(last))));
             b.body(0, b.store(0, b.number(last), b.number(5)),
                 b.perform(b.call(1, b.array(0), b.array(0))), b.print(b.at(0, b.number(last))));
-            run(b, "size " + size, 0, "5 5 6 7 7");
+            CHECK.run(b, "size " + size, 0, "5 5 6 7 7");
             b.body(1, b.print(b.at(2, b.number(size))));
-            run(b, "the COPY is no greater", 2, "");
+            CHECK.run(b, "the COPY is no greater", 2, "");
             b.body(1, b.print(b.at(3, b.number(size))));
-            run(b, "nor the ARRAY", 2, "");
+            CHECK.run(b, "nor the ARRAY", 2, "");
         }
     }
 
     private static void proc() {
-        CHECK.says("PROC: what is TAKEN: a PROCEDURE with the FRAME to which it would be linked, or "
-            + "EMPTY");
+        CHECK.says("PROC: what is TAKEN: a PROCEDURE with the FRAME to which it would be linked, "
+            + "or EMPTY");
         Build b = new Build();
         b.x.variable(0, 0, 2, 0);
         b.x.variable(0, 1, 2, 0);
@@ -273,12 +268,12 @@ public final class RunsSentencesTest {
         int call = b.call(3);
         b.body(1, b.print(b.number(1)), b.perform(call));
         b.body(0, b.perform(b.call(2, b.taken(4))), b.perform(b.call(2, b.taken(0))));
-        run(b, "EMPTY is handed on", 3, "1 8 1");
+        CHECK.run(b, "EMPTY is handed on", 3, "1 8 1");
         CHECK.due("the CALL", b.x.ofRun(1), call);
         int again = b.call(1);
         b.body(0, b.keep(1, b.taken(4)), b.perform(b.call(1)), b.keep(1, b.taken(0)),
             b.perform(again));
-        run(b, "EMPTY is kept", 3, "8");
+        CHECK.run(b, "EMPTY is kept", 3, "8");
         CHECK.due("the CALL", b.x.ofRun(1), again);
     }
 
@@ -304,7 +299,7 @@ public final class RunsSentencesTest {
         b.body(0, b.perform(b.call(7)), b.keep(1, b.taken(0)), b.perform(b.call(7)),
             b.perform(b.call(0)), b.perform(b.call(1)), b.perform(b.call(1)),
             b.perform(b.call(0)));
-        run(b, "numbers and arrays of FRAMES that have ended", 0, "112 112 223 223");
+        CHECK.run(b, "numbers and arrays of FRAMES that have ended", 0, "112 112 223 223");
     }
 
     private static void lessIfLoop() {
@@ -315,14 +310,14 @@ public final class RunsSentencesTest {
             Build b = new Build();
             b.x.variable(0, 0, 0, 0);
             b.body(0, b.set(0, b.number(row[0])), b.print(b.less(b.use(0), b.number(row[1]))));
-            run(b, row[0] + " less than " + row[1], 0, row[2] + "");
+            CHECK.run(b, row[0] + " less than " + row[1], 0, row[2] + "");
         }
         int[] all = {0, 1, -1, 999, -999};
         for (int v : all) {
             Build b = new Build();
             b.body(0, b.when(b.number(v), b.print(b.number(1)), b.print(b.number(2))),
                 b.when(b.number(v), b.print(b.number(3)), -1), b.print(b.number(4)));
-            run(b, "IF " + v, 0, v == 0 ? "2 4" : "1 3 4");
+            CHECK.run(b, "IF " + v, 0, v == 0 ? "2 4" : "1 3 4");
         }
         for (int turns = 0; turns <= 3; turns++) {
             Build b = new Build();
@@ -330,7 +325,8 @@ public final class RunsSentencesTest {
             // From -turns on, up to 0.
             b.body(0, b.set(0, b.number(-turns)), b.loop(9, b.use(0), b.seq(b.count(0),
                 b.print(b.use(0)))), b.print(b.number(7)));
-            run(b, turns + " turns", 0, new String[] {"7", "0 7", "-1 0 7", "-2 -1 0 7"}[turns]);
+            CHECK.run(b, turns + " turns", 0,
+                new String[] {"7", "0 7", "-1 0 7", "-2 -1 0 7"}[turns]);
         }
     }
 
@@ -343,12 +339,12 @@ public final class RunsSentencesTest {
             int at = b.at(0, b.number(k));
             boolean isThere = k >= 0 && k <= 2;
             b.x.body(0, b.print(at));
-            run(b, "AT " + k, isThere ? 0 : 2, isThere ? "0" : "");
+            CHECK.run(b, "AT " + k, isThere ? 0 : 2, isThere ? "0" : "");
             CHECK.due("its NODE", b.x.ofRun(1), isThere ? -1 : at);
             int store = b.store(0, b.number(k), b.number(7));
             b.body(0, store, b.print(b.at(0, b.number(isThere ? k : 0))),
                 b.print(b.at(1, b.number(0))));
-            run(b, "STORE " + k, isThere ? 0 : 2, isThere ? "7 0" : "");
+            CHECK.run(b, "STORE " + k, isThere ? 0 : 2, isThere ? "7 0" : "");
             CHECK.due("its NODE", b.x.ofRun(1), isThere ? -1 : store);
         }
         Build c = new Build();
@@ -357,10 +353,10 @@ public final class RunsSentencesTest {
         // 2^31 and the like are no places either.
         c.body(0, c.set(1, c.mul(c.mul(c.number(512), c.number(512)), c.mul(c.number(512),
             c.number(16)))), c.print(c.at(0, c.sub(c.use(1), c.number(1)))));
-        run(c, "the greatest int", 2, "");
+        CHECK.run(c, "the greatest int", 2, "");
         c.body(0, c.set(1, c.mul(c.mul(c.number(512), c.number(512)), c.mul(c.number(512),
             c.number(16)))), c.store(0, c.use(1), c.number(1)));
-        run(c, "the least int", 2, "");
+        CHECK.run(c, "the least int", 2, "");
     }
 
     private static void innermostLoop() {
@@ -371,10 +367,10 @@ public final class RunsSentencesTest {
         b.body(0, b.loop(1, b.less(b.use(0), b.number(2)), b.seq(b.count(0),
             b.loop(1, b.number(1), b.loop(2, b.number(1), b.leave(1))),
             b.print(b.use(0)))), b.print(b.number(9)));
-        run(b, "the one around it, not the one around that", 0, "1 2 9");
+        CHECK.run(b, "the one around it, not the one around that", 0, "1 2 9");
         b.body(0, b.loop(0, b.number(1), b.loop(9, b.number(1), b.seq(b.print(b.number(3)),
             b.leave(0)))), b.print(b.number(8)));
-        run(b, "LABELS 0 and 9", 0, "3 8");
+        CHECK.run(b, "LABELS 0 and 9", 0, "3 8");
     }
 
     private static void nearestProcedure() {
@@ -397,11 +393,11 @@ public final class RunsSentencesTest {
         b.x.body(1, b.seq(b.loop(5, b.number(1), b.seq(b.loop(5, b.number(1), b.seq(
             b.perform(b.call(2)), b.print(b.number(3)))), b.print(b.number(5)), b.leave(5))),
             b.print(b.number(4))));
-        run(b, "the innermost one", 0, "5 4");
+        CHECK.run(b, "the innermost one", 0, "5 4");
         b.x.body(1, b.perform(b.call(2)));
-        run(b, "one further out, without any in between", 0, "");
+        CHECK.run(b, "one further out, without any in between", 0, "");
         b.x.body(1, b.seq(b.loop(5, b.number(0), b.print(b.number(3))), b.perform(b.call(2))));
-        run(b, "the nearest one is not GOING ON", 5, "");
+        CHECK.run(b, "the nearest one is not GOING ON", 5, "");
     }
 
     private static void framesCalledFromThere() {
@@ -417,14 +413,14 @@ public final class RunsSentencesTest {
         b.x.body(2, b.give(b.number(3)));
         b.body(0, b.loop(0, b.less(b.use(0), b.number(3)), b.loop(1, b.number(1),
             b.perform(b.call(1, b.number(5))))), b.print(b.add(b.call(3), b.call(3))));
-        run(b, "seven FRAMES deep", 0, "6");
+        CHECK.run(b, "seven FRAMES deep", 0, "6");
         CHECK.due("DEPTH", b.x.ofRun(8), 7);
         CHECK.due("LIVE", b.x.ofRun(7), 7);
         // DEPTH is as before: what is CALLED behind it is not too deep.
         b.body(0, b.loop(0, b.number(1), b.perform(b.call(1, b.number(0)))),
             b.loop(0, b.number(1), b.perform(b.call(1, b.number(1)))), b.print(b.call(3)));
         b.x.limits(1000, 3);
-        run(b, "one after the other", 0, "3");
+        CHECK.run(b, "one after the other", 0, "3");
         CHECK.due("DEPTH", b.x.ofRun(8), 3);
         CHECK.due("LIVE", b.x.ofRun(7), 3);
     }
@@ -436,13 +432,13 @@ public final class RunsSentencesTest {
         int leave = b.leave(4);
         b.x.body(1, leave);
         b.body(0, b.loop(4, b.call(1), b.print(b.number(1))), b.print(b.number(2)));
-        run(b, "in its first b", 0, "2");
+        CHECK.run(b, "in its first b", 0, "2");
         b.body(0, b.perform(b.call(1)), b.loop(4, b.number(1), b.print(b.number(1))));
-        run(b, "not ahead of it", 5, "");
+        CHECK.run(b, "not ahead of it", 5, "");
         CHECK.due("its NODE", b.x.ofRun(1), leave);
         CHECK.due("its PROCEDURE", b.x.ofRun(2), 1);
         b.body(0, b.loop(3, b.call(1), b.loop(4, b.number(1), b.print(b.number(1)))));
-        run(b, "not ahead of it, in another one", 5, "");
+        CHECK.run(b, "not ahead of it, in another one", 5, "");
     }
 
     private static void goingOnTillItEnds() {
@@ -467,14 +463,14 @@ public final class RunsSentencesTest {
             }
             b.body(0, b.loop(5, b.number(1), b.seq(inner, b.leave(5))), b.print(b.number(1)),
                 b.perform(b.call(1)));
-            run(b, "LOOP 4 has ended, " + how, 5, "1");
+            CHECK.run(b, "LOOP 4 has ended, " + how, 5, "1");
             CHECK.due("its NODE", b.x.ofRun(1), leave);
             // The same of the LOOP around it, with LABEL 5.
             int again = b.leave(5);
             b.x.body(1, again);
             b.body(0, b.loop(5, b.number(1), b.loop(4, b.number(1), b.leave(5))),
                 b.print(b.number(2)), b.perform(b.call(1)));
-            run(b, "LOOP 5 has ended from INSIDE LOOP 4", 5, "2");
+            CHECK.run(b, "LOOP 5 has ended from INSIDE LOOP 4", 5, "2");
             CHECK.due("its NODE", b.x.ofRun(1), again);
         }
     }
@@ -489,14 +485,14 @@ public final class RunsSentencesTest {
         b.x.body(2, leave);
         b.body(1, b.keep(0, b.taken(2)), b.loop(4, b.number(1), b.give(b.number(5))));
         b.body(0, b.print(b.call(1)), b.loop(4, b.number(1), b.perform(b.call(0))));
-        run(b, "by RETURN, while one of another FRAME is GOING ON", 5, "5");
+        CHECK.run(b, "by RETURN, while one of another FRAME is GOING ON", 5, "5");
         CHECK.due("its NODE", b.x.ofRun(1), leave);
         b.x.procedure(0, 3);
         b.x.body(3, b.leave(6));
         b.body(1, b.keep(0, b.taken(2)), b.loop(4, b.number(1), b.perform(b.call(3))));
         b.body(0, b.loop(6, b.number(1), b.perform(b.call(1))), b.print(b.number(3)),
             b.perform(b.call(0)));
-        run(b, "by a BREAK of the LOOP from which it was CALLED", 5, "3");
+        CHECK.run(b, "by a BREAK of the LOOP from which it was CALLED", 5, "3");
         CHECK.due("its NODE", b.x.ofRun(1), leave);
     }
 
@@ -510,7 +506,7 @@ public final class RunsSentencesTest {
         b.x.limits(10, 40);
         CHECK.due("a run that ends in the LOOP", b.x.run(), 6);
         b.body(0, b.perform(b.call(1)), b.loop(3, b.number(1), b.print(b.number(1))));
-        run(b, "the LOOP of that run is not GOING ON", 5, "");
+        CHECK.run(b, "the LOOP of that run is not GOING ON", 5, "");
         CHECK.due("its NODE", b.x.ofRun(1), leave);
     }
 
@@ -591,10 +587,10 @@ public final class RunsSentencesTest {
             b.body(1, b.keep(0, b.taken(2)), b.loop(8, b.number(1), b.give(b.call(3,
                 b.call(2)))), b.print(b.number(5)));
             b.body(0, b.perform(b.call(1)));
-            run(b, "in an ARGUMENT it has not ended, PASSES " + passes, 0, "5");
+            CHECK.run(b, "in an ARGUMENT it has not ended, PASSES " + passes, 0, "5");
             b.body(1, b.keep(0, b.taken(2)), b.loop(8, b.number(1), b.give(b.call(3,
                 b.number(1)))), b.print(b.number(5)));
-            run(b, "behind them it has, PASSES " + passes, 5, "6");
+            CHECK.run(b, "behind them it has, PASSES " + passes, 5, "6");
             CHECK.due("its NODE", b.x.ofRun(1), leave);
         }
     }
@@ -610,7 +606,7 @@ public final class RunsSentencesTest {
             b.x.body(1, b.loop(3, b.number(1), b.give(b.call(2))));
             b.x.body(2, b.seq(b.print(b.number(1)), b.leave(7), b.print(b.number(2))));
             b.body(0, b.loop(7, b.number(1), b.perform(b.call(1))), b.print(b.number(3)));
-            run(b, "MAIN's LOOP goes on, PASSES " + passes, 0, "1 3");
+            CHECK.run(b, "MAIN's LOOP goes on, PASSES " + passes, 0, "1 3");
         }
     }
 }

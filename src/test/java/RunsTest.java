@@ -26,11 +26,6 @@ public final class RunsTest {
         CHECK.end();
     }
 
-    private static void run(Build b, String what, int trap, String printed) {
-        CHECK.due(what + ": run()", b.x.run(), trap);
-        CHECK.due(what + ": printed", b.printed(), printed);
-    }
-
     private static void limits() {
         StaticLink x = new StaticLink();
         CHECK.due("limits", x.limits(3000, 40), 1000);
@@ -47,7 +42,7 @@ public final class RunsTest {
         Build b = new Build();
         CHECK.state("run with FAULTS", () -> b.x.run());
         b.body(0, b.give(b.number(3)));
-        run(b, "RETURN in MAIN", 0, "");
+        CHECK.run(b, "RETURN in MAIN", 0, "");
         b.x.procedure(0, 1);
         CHECK.state("run with FAULTS", () -> b.x.run());
         CHECK.due("of the run before", b.ofRun(), "0 -1 -1 2 0 1 0 1 1 3");
@@ -64,7 +59,7 @@ public final class RunsTest {
             b.when(b.less(b.use(0), b.number(9)), b.print(b.number(1)), b.print(b.number(2))),
             b.when(b.number(-3), b.print(b.number(3)), b.print(b.number(4))),
             b.when(b.number(0), b.print(b.number(5)), -1));
-        run(b, "SET, IF", 0, "0 9 2 3");
+        CHECK.run(b, "SET, IF", 0, "0 9 2 3");
         CHECK.due("ofRun", b.ofRun(), "0 -1 -1 23 4 1 0 1 1 0");
     }
 
@@ -76,7 +71,7 @@ public final class RunsTest {
             b.print(b.div(b.number(7), b.number(-2))), b.print(b.less(b.number(1), b.number(1))),
             b.print(b.sub(b.number(1), b.number(3))),
             b.print(b.less(b.use(0), b.add(b.use(0), b.number(1)))));
-        run(b, "arithmetic", 0, (999 * 999 * 999 * 999) + " -3 -3 0 -2 1");
+        CHECK.run(b, "arithmetic", 0, (999 * 999 * 999 * 999) + " -3 -3 0 -2 1");
         Build c = new Build();
         c.x.variable(0, 0, 0, 0);
         // Doubled 31 times, 1 is the least int: it is its own opposite.
@@ -85,7 +80,7 @@ public final class RunsTest {
             c.loop(0, c.less(c.use(1), c.number(31)),
                 c.seq(c.count(1), c.set(0, c.add(c.use(0), c.use(0))))),
             c.print(c.use(0)), c.print(c.div(c.use(0), c.number(-1))));
-        run(c, "the least int", 0, "-2147483648 -2147483648");
+        CHECK.run(c, "the least int", 0, "-2147483648 -2147483648");
     }
 
     private static void arrays() {
@@ -95,21 +90,21 @@ public final class RunsTest {
         b.body(0, b.store(0, b.number(2), b.number(7)), b.store(1, b.number(0), b.number(5)),
             b.print(b.at(0, b.number(2))), b.print(b.at(0, b.number(0))),
             b.print(b.at(1, b.number(0))));
-        run(b, "arrays", 0, "7 0 5");
+        CHECK.run(b, "arrays", 0, "7 0 5");
         int[] outside = {-1, 3, 999, -999};
         for (int k : outside) {
             int at = b.at(0, b.number(k));
             b.x.body(0, b.print(at));
-            run(b, "AT outside", 2, "");
+            CHECK.run(b, "AT outside", 2, "");
             CHECK.due("its NODE", b.x.ofRun(1), at);
             CHECK.due("its PROCEDURE", b.x.ofRun(2), 0);
         }
         int store = b.store(1, b.number(1), b.div(b.number(1), b.number(0)));
         b.x.body(0, store);
-        run(b, "the trap in c comes first", 1, "");
+        CHECK.run(b, "the trap in c comes first", 1, "");
         store = b.store(1, b.number(1), b.number(1));
         b.x.body(0, store);
-        run(b, "STORE outside", 2, "");
+        CHECK.run(b, "STORE outside", 2, "");
         CHECK.due("its NODE", b.x.ofRun(1), store);
         CHECK.due("the STEPS: b and c, too", b.x.ofRun(3), 3);
     }
@@ -134,7 +129,7 @@ public final class RunsTest {
         b.body(0, b.perform(b.call(2, b.use(0), b.use(0), b.at(1, b.use(0)),
             b.add(b.at(1, b.number(0)), b.use(0)))),
             b.print(b.use(0)), b.print(b.at(1, b.number(0))), b.print(b.at(1, b.number(1))));
-        run(b, "VALUE, REF, BY NAME", 0, "50 0 1 9 11 60 11 8 0");
+        CHECK.run(b, "VALUE, REF, BY NAME", 0, "50 0 1 9 11 60 11 8 0");
     }
 
     private static void arraysHandedOn() {
@@ -151,7 +146,7 @@ public final class RunsTest {
             b.print(b.at(0, b.number(0))), b.print(b.at(3, b.number(2))));
         b.body(0, b.store(0, b.number(0), b.number(5)),
             b.perform(b.call(1, b.array(0), b.array(0))));
-        run(b, "COPY, ARRAY", 2, "6 6 6");
+        CHECK.run(b, "COPY, ARRAY", 2, "6 6 6");
         Build c = new Build();
         c.x.variable(0, 0, 1, 2);
         c.x.procedure(0, 1);
@@ -161,7 +156,7 @@ public final class RunsTest {
         c.body(2, c.store(0, c.number(1), c.number(9)));
         c.body(1, c.print(c.at(2, c.number(1))), c.store(2, c.number(1), c.number(4)));
         c.body(0, c.perform(c.call(1, c.array(0), c.call(4))), c.print(c.at(0, c.number(1))));
-        run(c, "the copy is made as it is handed on", 0, "0 9");
+        CHECK.run(c, "the copy is made as it is handed on", 0, "0 9");
     }
 
     private static void leftToRight() {
@@ -177,7 +172,7 @@ public final class RunsTest {
         b.body(0, b.print(b.sub(b.use(0), b.call(1))), b.print(b.sub(b.call(1), b.use(0))),
             b.perform(b.call(2, b.call(1), b.call(1), b.call(1))),
             b.print(b.sub(b.mul(b.call(1), b.number(100)), b.call(1))));
-        run(b, "left to right", 0, "-1 0 -17 593");
+        CHECK.run(b, "left to right", 0, "-1 0 -17 593");
     }
 
     private static void procs() {
@@ -194,19 +189,19 @@ public final class RunsTest {
             b.print(b.call(0, b.number(7))));
         int call = b.call(0, b.number(7));
         b.body(0, b.keep(0, b.taken(2)), b.perform(b.call(4, b.taken(0))), b.print(b.number(1)));
-        run(b, "PROC, then EMPTY", 3, "49");
+        CHECK.run(b, "PROC, then EMPTY", 3, "49");
         CHECK.due("PROCEDURE of the TRAP", b.x.ofRun(2), 2);
         b.body(0, b.print(call));
-        run(b, "EMPTY at first", 3, "");
+        CHECK.run(b, "EMPTY at first", 3, "");
         CHECK.due("the CALL", b.x.ofRun(1), call);
         CHECK.due("behind its ARGUMENTS", b.x.ofRun(3), 4);
         int two = b.call(0, b.number(1), b.number(2));
         b.body(0, b.keep(0, b.taken(2)), b.print(two));
-        run(b, "too many ARGUMENTS", 4, "");
+        CHECK.run(b, "too many ARGUMENTS", 4, "");
         CHECK.due("the CALL", b.x.ofRun(1), two);
         CHECK.due("no FRAME began", b.x.ofRun(5), 1);
         b.body(0, b.keep(0, b.taken(2)), b.print(b.call(0)));
-        run(b, "too few ARGUMENTS", 4, "");
+        CHECK.run(b, "too few ARGUMENTS", 4, "");
     }
 
     // A PROCEDURE that was taken keeps the FRAME of its PARENT, each its own one.
@@ -226,7 +221,7 @@ public final class RunsTest {
             b.set(7, b.number(6)));
         b.body(0, b.perform(b.call(6)), b.keep(1, b.taken(0)), b.perform(b.call(6)),
             b.print(b.call(0)), b.print(b.call(0)), b.print(b.call(1)), b.print(b.call(0)));
-        run(b, "FRAMES that are kept", 0, "106 112 106 118");
+        CHECK.run(b, "FRAMES that are kept", 0, "106 112 106 118");
         CHECK.due("FRAMES", b.x.ofRun(5), 9);
         CHECK.due("CELLS: what ESCAPES", b.x.ofRun(6), 4);
         CHECK.due("CELLS: all", b.x.with(0, 1), 2 + 2 * 1 + 2 * 2);
@@ -242,12 +237,12 @@ public final class RunsTest {
             b.loop(2, b.number(1), b.seq(b.count(0),
                 b.loop(3, b.number(1), b.leave(2)))),
             b.print(b.use(0)));
-        run(b, "BREAK of the innermost, and of an outer one", 0, "1 2 3 4");
+        CHECK.run(b, "BREAK of the innermost, and of an outer one", 0, "1 2 3 4");
         Build c = new Build();
         c.x.procedure(0, 1);
         c.body(1, c.loop(0, c.number(1), c.loop(1, c.number(1), c.give(c.number(4)))));
         c.body(0, c.print(c.add(c.number(3), c.call(1))));
-        run(c, "RETURN in LOOPS", 0, "7");
+        CHECK.run(c, "RETURN in LOOPS", 0, "7");
     }
 
     private static void farBreaks() {
@@ -267,7 +262,7 @@ public final class RunsTest {
             b.print(b.use(2)));
         b.body(0, b.loop(5, b.number(1), b.seq(b.perform(b.call(1)), b.leave(5))),
             b.print(b.number(9)));
-        run(b, "BREAK over FRAMES", 0, "1 1 1 9");
+        CHECK.run(b, "BREAK over FRAMES", 0, "1 1 1 9");
         CHECK.due("DEPTH", b.x.ofRun(8), 10);
         CHECK.due("LIVE", b.x.ofRun(7), 10);
 
@@ -276,7 +271,7 @@ public final class RunsTest {
         c.x.procedure(0, 1);
         c.body(1, c.leave(2));
         c.body(0, c.loop(2, c.call(1), c.print(c.number(1))), c.print(c.number(2)));
-        run(c, "GOING ON from its first b on", 0, "2");
+        CHECK.run(c, "GOING ON from its first b on", 0, "2");
 
         // What is BY NAME is reckoned far in, and the BREAK ends all up to its LOOP.
         Build d = new Build();
@@ -289,7 +284,7 @@ public final class RunsTest {
         d.body(3, d.print(d.number(-2)));
         d.body(0, d.loop(7, d.number(1), d.perform(d.call(1, d.add(d.number(1), d.call(3))))),
             d.print(d.number(5)));
-        run(d, "BREAK out of what is BY NAME", 0, "5");
+        CHECK.run(d, "BREAK out of what is BY NAME", 0, "5");
     }
 
     private static void breakOfWhatEnded() {
@@ -302,13 +297,13 @@ public final class RunsTest {
         b.body(1, b.loop(3, b.number(1), b.seq(b.keep(0, b.taken(2)), b.leave(3))),
             b.print(b.number(1)), b.perform(b.call(2)));
         b.body(0, b.loop(3, b.number(1), b.perform(b.call(1))));
-        run(b, "its LOOP has ended; one further out does not count", 5, "1");
+        CHECK.run(b, "its LOOP has ended; one further out does not count", 5, "1");
         CHECK.due("the BREAK", b.x.ofRun(1), leave);
         CHECK.due("its PROCEDURE", b.x.ofRun(2), 2);
         CHECK.due("MAIN gave", b.x.ofRun(9), 0);
         b.body(1, b.loop(3, b.number(1), b.seq(b.keep(0, b.taken(2)), b.give(b.number(0)))));
         b.body(0, b.perform(b.call(1)), b.print(b.number(2)), b.perform(b.call(0)));
-        run(b, "its FRAME has ended", 5, "2");
+        CHECK.run(b, "its FRAME has ended", 5, "2");
         otherFrame();
     }
 
@@ -324,7 +319,7 @@ public final class RunsTest {
             b.loop(3, b.sub(b.number(1), b.use(2)), b.perform(b.call(0))),
             b.print(b.number(6)));
         b.body(0, b.perform(b.call(1, b.number(1))), b.perform(b.call(1, b.number(0))));
-        run(b, "the LOOP of another FRAME", 5, "6");
+        CHECK.run(b, "the LOOP of another FRAME", 5, "6");
     }
 
     private static void tails() {
@@ -336,17 +331,17 @@ public final class RunsTest {
             b.add(b.use(3), b.use(2)))), b.give(b.use(3))));
         b.body(0, b.print(b.call(1, b.number(10), b.number(0))),
             b.print(b.call(1, b.number(2), b.number(0))));
-        run(b, "TAILS", 0, "55 3");
+        CHECK.run(b, "TAILS", 0, "55 3");
         CHECK.due("DEPTH", b.x.ofRun(8), 12);
         CHECK.due("LIVE", b.x.ofRun(7), 2);
         CHECK.due("FRAMES", b.x.ofRun(5), 15);
         b.x.passes(5);
-        run(b, "without TAIL", 0, "55 3");
+        CHECK.run(b, "without TAIL", 0, "55 3");
         CHECK.due("DEPTH", b.x.ofRun(8), 12);
         CHECK.due("LIVE", b.x.ofRun(7), 12);
         b.x.passes(2);
         b.x.limits(1000, 11);
-        run(b, "a TAIL ends no CALL", 7, "");
+        CHECK.run(b, "a TAIL ends no CALL", 7, "");
         CHECK.due("LIVE at the TRAP", b.x.ofRun(7), 2);
         CHECK.due("DEPTH at the TRAP", b.x.ofRun(8), 11);
         CHECK.due("CELLS", b.x.ofRun(6), 20);
@@ -367,13 +362,13 @@ public final class RunsTest {
         b.body(0, b.perform(b.call(1)));
         for (int passes = 0; passes <= 7; passes++) {
             b.x.passes(passes);
-            run(b, "PASSES " + passes, 5, "7");
+            CHECK.run(b, "PASSES " + passes, 5, "7");
             CHECK.due("the BREAK", b.x.ofRun(1), leave);
             CHECK.due("LIVE", b.x.ofRun(7), (passes & 2) != 0 ? 3 : 4);
         }
         b.body(1, b.keep(0, b.taken(2)),
             b.loop(4, b.number(1), b.give(b.add(b.number(0), b.call(3)))), b.print(b.number(1)));
-        run(b, "no TAIL", 0, "7 1");
+        CHECK.run(b, "no TAIL", 0, "7 1");
     }
 
     private static void traps() {
@@ -382,20 +377,20 @@ public final class RunsTest {
         int div = b.div(b.number(3), b.number(0));
         b.body(1, b.print(b.number(4)), b.give(div));
         b.body(0, b.give(b.add(b.number(1), b.call(0))));
-        run(b, "DIV by 0", 1, "4");
+        CHECK.run(b, "DIV by 0", 1, "4");
         CHECK.due("ofRun", b.ofRun(), "1 " + div + " 1 " + "11 1 2 0 2 2 0");
         Build c = new Build();
         int turn = c.number(1);
         c.body(0, c.loop(0, turn, c.print(c.number(2))));
         c.x.limits(7, 1);
-        run(c, "STEPS", 6, "2 2");
+        CHECK.run(c, "STEPS", 6, "2 2");
         CHECK.due("the NODE that would be begun", c.x.ofRun(1), turn);
         CHECK.due("STEPS", c.x.ofRun(3), 7);
         c.x.limits(8, 1);
-        run(c, "STEPS", 6, "2 2");
+        CHECK.run(c, "STEPS", 6, "2 2");
         CHECK.due("the PRINT would be begun", c.x.ofRun(1), turn + 2);
         c.x.limits(1, 1);
-        run(c, "STEPS", 6, "");
+        CHECK.run(c, "STEPS", 6, "");
         CHECK.due("ofRun", c.ofRun(), "6 " + turn + " 0 1 0 1 0 1 1 0");
     }
 
@@ -405,9 +400,9 @@ public final class RunsTest {
         b.x.procedure(0, 1);
         b.body(1, b.loop(0, b.number(1), b.print(b.div(b.number(7), b.use(0)))));
         b.body(0, b.set(0, b.number(0)), b.give(b.add(b.number(3), b.call(1))));
-        run(b, "a TRAP far in", 1, "");
+        CHECK.run(b, "a TRAP far in", 1, "");
         b.x.body(1, b.give(b.number(4)));
-        run(b, "a run behind it", 0, "");
+        CHECK.run(b, "a run behind it", 0, "");
         CHECK.due("MAIN gave", b.x.ofRun(9), 7);
         CHECK.due("ofRun", b.ofRun(), "0 -1 -1 9 0 2 0 2 2 7");
     }
@@ -421,25 +416,25 @@ public final class RunsTest {
         int call = b.call(1, b.div(b.number(1), b.number(0)));
         b.body(0, b.perform(call));
         b.x.limits(100, 1);
-        run(b, "7 comes behind the ARGUMENTS", 1, "");
+        CHECK.run(b, "7 comes behind the ARGUMENTS", 1, "");
         call = b.call(1, b.number(1));
         b.body(0, b.perform(call));
-        run(b, "DEPTH", 7, "");
+        CHECK.run(b, "DEPTH", 7, "");
         CHECK.due("ofRun", b.ofRun(), "7 " + call + " 0 4 0 1 0 1 1 0");
         b.body(0, b.perform(b.call(0)));
-        run(b, "3 comes ahead of 7", 3, "");
+        CHECK.run(b, "3 comes ahead of 7", 3, "");
         b.body(0, b.keep(0, b.taken(1)), b.perform(b.call(0)));
-        run(b, "4 comes ahead of 7", 4, "");
+        CHECK.run(b, "4 comes ahead of 7", 4, "");
         call = b.call(0, b.number(1));
         b.body(0, b.keep(0, b.taken(1)), b.perform(call));
-        run(b, "7 of a PROC", 7, "");
+        CHECK.run(b, "7 of a PROC", 7, "");
         CHECK.due("its NODE", b.x.ofRun(1), call);
         // A PROC is looked at behind its ARGUMENTS, that may SET it.
         b.x.procedure(0, 3);
         b.body(2, b.keep(0, b.taken(1)));
         b.body(0, b.perform(b.call(0, b.call(3))));
         b.x.limits(100, 2);
-        run(b, "a PROC that its ARGUMENT keeps", 0, "1");
+        CHECK.run(b, "a PROC that its ARGUMENT keeps", 0, "1");
     }
 
     private static void steps() {
@@ -463,19 +458,19 @@ public final class RunsTest {
         b.x.body(0, b.perform(b.call(3, b.use(0), b.at(1, b.number(0)),
             b.add(b.number(1), b.number(1)), b.number(3))));
         // DO, CALL; ARGUMENT, USE; ARGUMENT, AT, NUMBER; ARGUMENT; ARGUMENT, NUMBER; PRINT, NUMBER
-        run(b, "REF and BY NAME", 0, "0");
+        CHECK.run(b, "REF and BY NAME", 0, "0");
         CHECK.due("STEPS", b.x.ofRun(3), 12);
         b.x.body(1, b.print(b.add(b.use(6), b.use(6))));
         // Instead of NUMBER: ADD, and twice USE, ADD, NUMBER, NUMBER.
-        run(b, "BY NAME, twice", 0, "4");
+        CHECK.run(b, "BY NAME, twice", 0, "4");
         CHECK.due("STEPS", b.x.ofRun(3), 20);
         b.x.body(0, b.perform(b.call(8, b.array(1), b.array(1), b.taken(12))));
         // DO, CALL; ARGUMENT, ARRAY NAME; the same; ARGUMENT, TAKEN; PRINT, NUMBER
-        run(b, "ARRAY NAME and TAKEN", 0, "0");
+        CHECK.run(b, "ARRAY NAME and TAKEN", 0, "0");
         CHECK.due("STEPS", b.x.ofRun(3), 10);
         b.body(0, b.keep(2, b.taken(12)), b.loop(0, b.less(b.use(0), b.number(2)), b.count(0)));
         // SEQ, KEEP, TAKEN, LOOP; thrice LESS, USE, NUMBER; twice SET, ADD, USE, NUMBER
-        run(b, "a LOOP is begun once", 0, "");
+        CHECK.run(b, "a LOOP is begun once", 0, "");
         CHECK.due("STEPS", b.x.ofRun(3), 21);
         CHECK.due("STEPS, whatever PASSES", b.x.with(7, 1), 0);
     }
@@ -500,11 +495,11 @@ public final class RunsTest {
         CHECK.due("the mean: the sum does not go round", b.x.meanPrinted(), 997002999.0);
         b.body(0, b.print(b.number(2)), b.print(b.number(-5)));
         CHECK.due("of the latest run yet", b.x.meanPrinted(), 997002999.0);
-        run(b, "PRINT", 0, "2 -5");
+        CHECK.run(b, "PRINT", 0, "2 -5");
         CHECK.due("the mean is not cut", b.x.meanPrinted(), -1.5);
         CHECK.bounds("printed(2, 0)", () -> b.x.printed(2, 0));
         b.body(0, b.set(0, b.number(1)));
-        run(b, "no PRINT", 0, "");
+        CHECK.run(b, "no PRINT", 0, "");
         CHECK.due("no mean", b.x.meanPrinted(), 0.0);
         CHECK.due("runs", b.x.ofRun(10), 3);
     }

@@ -34,19 +34,14 @@ public final class TrapsSentencesTest {
         CHECK.end();
     }
 
-    private static void run(Build b, String what, int trap, String printed) {
-        CHECK.due(what + ": run()", b.x.run(), trap);
-        CHECK.due(what + ": printed", b.printed(), printed);
-    }
-
     private static void steps(Build b, String what, int want) {
         CHECK.due(what + ": run()", b.x.run(), 0);
         CHECK.due(what + ": STEPS", b.x.ofRun(3), want);
     }
 
     private static void eachNodeIsAStep() {
-        CHECK.says("STEPS: each NODE that is begun is one, ahead of its parts (an ARGUMENT, a TAKEN "
-            + "and an ARRAY NAME, too)");
+        CHECK.says("STEPS: each NODE that is begun is one, ahead of its parts (an ARGUMENT, a "
+            + "TAKEN and an ARRAY NAME, too)");
         Build b = new Build();
         b.x.variable(0, 0, 0, 0);
         b.x.variable(0, 1, 1, 2);
@@ -65,7 +60,8 @@ public final class TrapsSentencesTest {
         int[] bodies = {b.print(b.number(1)), b.print(b.use(0)), b.print(b.at(1, b.number(0))),
             b.print(b.add(b.number(1), b.number(2))), b.perform(b.call(3)),
             b.perform(b.call(9, b.number(1))), b.perform(b.call(4, b.taken(3))),
-            b.perform(b.call(6, b.array(1), b.array(1))), b.seq(b.give(b.number(1)), b.print(b.number(9))),
+            b.perform(b.call(6, b.array(1), b.array(1))),
+            b.seq(b.give(b.number(1)), b.print(b.number(9))),
             b.set(0, b.number(1)), b.store(1, b.number(0), b.number(1)),
             b.when(b.number(1), b.print(b.number(1)), b.print(b.add(b.number(1), b.number(1)))),
             b.when(b.number(0), b.print(b.number(1)), b.print(b.add(b.number(1), b.number(1)))),
@@ -233,7 +229,7 @@ public final class TrapsSentencesTest {
         c.x.body(0, c.loop(0, c.less(c.use(0), c.number(5)), c.loop(1, c.number(1),
             c.seq(c.count(0), c.print(c.add(twice, c.call(3))), c.leave(1)))));
         c.x.limits(1000, 2);
-        run(c, "fifteen CALLS", 0, "3 3 3 3 3");
+        CHECK.run(c, "fifteen CALLS", 0, "3 3 3 3 3");
         CHECK.due("DEPTH", c.x.ofRun(8), 2);
         CHECK.due("FRAMES", c.x.ofRun(5), 16);
         c.x.limits(1000, 1);
@@ -248,10 +244,10 @@ public final class TrapsSentencesTest {
         d.x.body(0, d.seq(d.perform(d.call(1, d.number(1))), d.perform(d.call(1, d.call(3))),
             d.perform(d.call(1, d.call(3)))));
         d.x.limits(1000, 3);
-        run(d, "BY NAME", 0, "1 6 6");
+        CHECK.run(d, "BY NAME", 0, "1 6 6");
         CHECK.due("DEPTH", d.x.ofRun(8), 3);
         d.x.limits(1000, 2);
-        run(d, "BY NAME, too deep", 7, "1");
+        CHECK.run(d, "BY NAME, too deep", 7, "1");
     }
 
     private static void depthOfTails() {
@@ -283,25 +279,25 @@ public final class TrapsSentencesTest {
             b.x.body(1, b.seq(b.print(b.use(1)), b.give(b.use(1))));
             int div = b.div(b.call(0, b.number(v)), b.call(0, b.number(0)));
             b.x.body(0, b.print(div));
-            run(b, v + " / 0", 1, v + " 0");
+            CHECK.run(b, v + " / 0", 1, v + " 0");
             CHECK.due("ofRun", b.ofRun(), "1 " + div + " 0 18 2 3 0 2 2 0");
             b.x.body(0, b.print(b.div(b.number(0), b.number(7))));
-            run(b, "0 / 7", 0, "0");
+            CHECK.run(b, "0 / 7", 0, "0");
         }
         Build c = new Build();
         int inB = c.div(c.number(1), c.number(0));
         c.x.body(0, c.print(c.div(inB, c.number(0))));
-        run(c, "one in b comes first", 1, "");
+        CHECK.run(c, "one in b comes first", 1, "");
         CHECK.due("its NODE", c.x.ofRun(1), inB);
         Build d = new Build();
         d.x.variable(0, 0, 1, 1);
         int inC = d.div(d.number(1), d.number(0));
         d.x.body(0, d.store(0, d.number(9), inC));
-        run(d, "2 of a STORE comes behind c", 1, "");
+        CHECK.run(d, "2 of a STORE comes behind c", 1, "");
         CHECK.due("its NODE", d.x.ofRun(1), inC);
         int at = d.at(0, d.number(1));
         d.x.body(0, d.store(0, at, d.div(d.number(1), d.number(0))));
-        run(d, "b of a STORE comes first", 2, "");
+        CHECK.run(d, "b of a STORE comes first", 2, "");
         CHECK.due("its NODE", d.x.ofRun(1), at);
     }
 
@@ -317,10 +313,10 @@ public final class TrapsSentencesTest {
         b.x.body(1, b.perform(own));
         int mine = b.call(0);
         b.x.body(0, b.perform(mine));
-        run(b, "MAIN's", 3, "");
+        CHECK.run(b, "MAIN's", 3, "");
         CHECK.due("ofRun", b.ofRun(), "3 " + mine + " 0 2 0 1 0 1 1 0");
         b.x.body(0, b.seq(b.keep(0, b.taken(3)), b.perform(b.call(0)), b.perform(b.call(1))));
-        run(b, "that of a FRAME", 3, "5");
+        CHECK.run(b, "that of a FRAME", 3, "5");
         CHECK.due("its NODE", b.x.ofRun(1), own);
         CHECK.due("its PROCEDURE", b.x.ofRun(2), 1);
         CHECK.due("FRAMES", b.x.ofRun(5), 3);
@@ -344,7 +340,7 @@ public final class TrapsSentencesTest {
                 int call = b.call(0, handed);
                 b.x.body(0, b.seq(b.keep(0, b.taken(1)), b.perform(call)));
                 boolean isRight = given == parameters;
-                run(b, given + " for " + parameters, isRight ? 0 : 4,
+                CHECK.run(b, given + " for " + parameters, isRight ? 0 : 4,
                     !isRight ? "" : given == 0 ? "7" : "" + given);
                 CHECK.due("its NODE", b.x.ofRun(1), isRight ? -1 : call);
                 CHECK.due("behind the ARGUMENTS", b.x.ofRun(3), 5 + 2 * given + (isRight ? 2 : 0));
@@ -361,7 +357,7 @@ public final class TrapsSentencesTest {
         b.x.body(2, leave);
         b.x.body(1, b.perform(b.call(2)));
         b.x.body(0, b.seq(b.loop(0, b.number(0), b.print(b.number(1))), b.perform(b.call(1))));
-        run(b, "from two further in", 5, "");
+        CHECK.run(b, "from two further in", 5, "");
         CHECK.due("ofRun", b.ofRun(), "5 " + leave + " 2 8 0 3 0 3 3 0");
     }
 
@@ -412,22 +408,22 @@ public final class TrapsSentencesTest {
         b.x.limits(1000, 1);
         int[] handed = {b.div(b.number(1), b.number(0)), b.number(1), b.number(2)};
         b.x.body(0, b.perform(b.call(0, handed[0], handed[1])));
-        run(b, "an ARGUMENT ahead of all", 1, "");
+        CHECK.run(b, "an ARGUMENT ahead of all", 1, "");
         b.x.body(0, b.perform(b.call(0)));
-        run(b, "3 ahead of 4 and 7", 3, "");
+        CHECK.run(b, "3 ahead of 4 and 7", 3, "");
         b.x.body(0, b.seq(b.keep(0, b.taken(1)), b.perform(b.call(0))));
-        run(b, "4 ahead of 7", 4, "");
+        CHECK.run(b, "4 ahead of 7", 4, "");
         b.x.body(0, b.seq(b.keep(0, b.taken(1)), b.perform(b.call(0, b.number(1)))));
-        run(b, "7 of a PROC", 7, "");
+        CHECK.run(b, "7 of a PROC", 7, "");
         CHECK.due("STEPS, with the ARGUMENT's", b.x.ofRun(3), 7);
         b.x.body(0, b.perform(b.call(1, b.div(b.number(1), b.number(0)))));
-        run(b, "an ARGUMENT ahead of 7", 1, "");
+        CHECK.run(b, "an ARGUMENT ahead of 7", 1, "");
         b.x.body(0, b.perform(b.call(1, b.number(1))));
-        run(b, "7 of a PROCEDURE", 7, "");
+        CHECK.run(b, "7 of a PROCEDURE", 7, "");
         CHECK.due("STEPS, with the ARGUMENT's", b.x.ofRun(3), 4);
         CHECK.due("CALLS: it did not begin", b.x.ofRun(5), 1);
         b.x.limits(4, 2);
-        run(b, "the FRAME began, its BODY did not", 6, "");
+        CHECK.run(b, "the FRAME began, its BODY did not", 6, "");
         CHECK.due("CALLS", b.x.ofRun(5), 2);
         CHECK.due("DEPTH", b.x.ofRun(8), 2);
         procOfAnArgument();
@@ -445,7 +441,7 @@ public final class TrapsSentencesTest {
         b.x.body(2, b.seq(b.keep(0, b.taken(1)), b.give(b.number(6))));
         b.x.body(3, b.print(b.number(-1)));
         b.x.body(0, b.seq(b.keep(0, b.taken(4)), b.perform(b.call(0, b.call(3)))));
-        run(b, "a PROC is looked at behind its ARGUMENTS", 0, "6");
+        CHECK.run(b, "a PROC is looked at behind its ARGUMENTS", 0, "6");
     }
 
     private static void trapsEndARun() {
@@ -455,8 +451,8 @@ public final class TrapsSentencesTest {
         b.x.body(1, b.loop(1, b.number(1), b.print(b.div(b.number(1), b.number(0)))));
         b.x.body(0, b.seq(b.print(b.number(4)), b.loop(1, b.number(1), b.print(b.add(b.number(3),
             b.call(0)))), b.print(b.number(5))));
-        run(b, "nothing is done behind it", 1, "4");
-        run(b, "and the next run starts anew", 1, "4");
+        CHECK.run(b, "nothing is done behind it", 1, "4");
+        CHECK.run(b, "and the next run starts anew", 1, "4");
         CHECK.due("DEPTH", b.x.ofRun(8), 2);
         CHECK.due("LIVE", b.x.ofRun(7), 2);
         CHECK.due("CALLS", b.x.ofRun(5), 2);
@@ -485,8 +481,8 @@ public final class TrapsSentencesTest {
     }
 
     private static void run() {
-        CHECK.says("run: Returns the TRAP; 0 without one. Throws IllegalStateException if there are "
-            + "FAULTS");
+        CHECK.says("run: Returns the TRAP; 0 without one. Throws IllegalStateException if there "
+            + "are FAULTS");
         Build b = new Build();
         CHECK.state("without a BODY", () -> b.x.run());
         b.x.body(0, b.print(b.number(1)));
@@ -503,8 +499,8 @@ public final class TrapsSentencesTest {
 
     private static void ofRun() {
         CHECK.says("of the latest run: 0 its TRAP (0), 1 the NODE of that (NONE), 2 the PROCEDURE "
-            + "that this was IN (NONE), 3 STEPS, 4 how many numbers were PRINTED, 5 CALLS (how many "
-            + "FRAMES began, that of MAIN, too), 6 CELLS, 7 the most that were LIVE, 8 the most "
+            + "that this was IN (NONE), 3 STEPS, 4 how many numbers were PRINTED, 5 CALLS (how "
+            + "many FRAMES began, that of MAIN, too), 6 CELLS, 7 the most that were LIVE, 8 the most "
             + "DEPTH, 9 what MAIN gave (0 with a TRAP); or 10 how many runs there were ever");
         Build b = new Build();
         b.x.variable(0, 0, 0, 0);

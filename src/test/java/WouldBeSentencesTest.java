@@ -358,53 +358,6 @@ public final class WouldBeSentencesTest {
             0, -1, -1, 2, 1, 1, 0, 1, 1, 0));
     }
 
-    private static long digestOf(StaticLink x) {
-        long d = 58126;
-        for (int what = 0; what <= 10; what++) {
-            d = d * 31 + x.many(what);
-        }
-        boolean isRight = x.many(3) == 0;
-        for (int p = 0; p < x.many(0); p++) {
-            for (int what = 0; what <= 7; what++) {
-                d = d * 31 + x.ofProcedure(p, what);
-            }
-            for (int name = 0; name <= 7; name++) {
-                d = d * 31 + x.hiddenBy(p, name);
-            }
-            int length = isRight ? x.ofProcedure(p, 7) : 0;
-            for (int k = 0; k < length; k++) {
-                for (int what = 0; what <= 3; what++) {
-                    d = d * 31 + x.code(p, k, what);
-                }
-            }
-        }
-        for (int n = 0; n < x.many(1); n++) {
-            for (int what = 4; what <= 7; what++) {
-                d = d * 31 + x.ofNode(n, what);
-            }
-        }
-        for (int k = 0; k < x.many(3); k++) {
-            for (int what = 0; what <= 2; what++) {
-                d = d * 31 + x.fault(k, what);
-            }
-        }
-        for (int what = 0; what <= 10; what++) {
-            d = d * 31 + x.ofRun(what);
-        }
-        for (int k = 0; k < 50 && k < x.ofRun(4); k++) {
-            for (int what = 0; what <= 2; what++) {
-                d = d * 31 + x.printed(k, what);
-            }
-        }
-        for (int what = 0; what <= 2 && isRight; what++) {
-            d = d * 31 + x.with(0, what);
-        }
-        for (int what = 0; what <= 9 && isRight; what++) {
-            d = d * 31 + x.wouldRun(200, 10, what);
-        }
-        return d;
-    }
-
     private static void digests() {
         CHECK.says("many() of 0 to 10; PROCEDURE by PROCEDURE ofProcedure() of 0 to 7, hiddenBy() "
             + "of the NAMES 0 to 7, and, without FAULTS, of its CODE, place by place, code() of 0 "
@@ -417,7 +370,7 @@ public final class WouldBeSentencesTest {
                 Build b = nested(n);
                 b.x.passes(passes);
                 b.x.run();
-                CHECK.due("nested(" + n + ")", b.x.digest(), digestOf(b.x));
+                CHECK.due("nested(" + n + ")", b.x.digest(), Digest.of(b.x));
             }
             for (int turns = 15; turns <= 60; turns += 5) {
                 Build b = new Build();
@@ -426,14 +379,14 @@ public final class WouldBeSentencesTest {
                 b.x.body(0, b.loop(0, b.less(b.use(7), b.number(turns)), b.seq(
                     b.print(b.mul(b.number(2), b.number(3))), b.count(7))));
                 b.x.run();
-                CHECK.due("turns " + turns, b.x.digest(), digestOf(b.x));
+                CHECK.due("turns " + turns, b.x.digest(), Digest.of(b.x));
             }
             Build c = new Build();
             c.x.passes(passes);
             c.x.body(0, c.loop(0, c.number(1), c.print(c.number(4))));
             c.x.limits(3000, 1);
             c.x.run();
-            CHECK.due("all kept", c.x.digest(), digestOf(c.x));
+            CHECK.due("all kept", c.x.digest(), Digest.of(c.x));
         }
         Build f = new Build();
         f.x.procedure(0, 1);
@@ -442,9 +395,9 @@ public final class WouldBeSentencesTest {
         f.x.body(0, f.set(0, f.at(2, f.number(1))));
         f.number(4);
         CHECK.due("many FAULTS", f.x.many(3), 7);
-        CHECK.due("digest with FAULTS", f.x.digest(), digestOf(f.x));
+        CHECK.due("digest with FAULTS", f.x.digest(), Digest.of(f.x));
         f.x.body(1, f.print(f.number(1)));
-        CHECK.due("digest with FAULTS", f.x.digest(), digestOf(f.x));
+        CHECK.due("digest with FAULTS", f.x.digest(), Digest.of(f.x));
     }
 
     private static void digestWrapsAround() {

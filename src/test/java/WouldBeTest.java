@@ -157,66 +157,20 @@ public final class WouldBeTest {
         CHECK.argument("hiddenBy, name -1", () -> b.x.hiddenBy(0, -1));
     }
 
-    private static long digestOf(StaticLink x) {
-        long d = 58126;
-        for (int what = 0; what <= 10; what++) {
-            d = d * 31 + x.many(what);
-        }
-        boolean isRight = x.many(3) == 0;
-        for (int p = 0; p < x.many(0); p++) {
-            for (int what = 0; what <= 7; what++) {
-                d = d * 31 + x.ofProcedure(p, what);
-            }
-            for (int name = 0; name <= 7; name++) {
-                d = d * 31 + x.hiddenBy(p, name);
-            }
-            for (int k = 0; k < x.ofProcedure(p, 7); k++) {
-                for (int what = 0; what <= 3; what++) {
-                    d = d * 31 + x.code(p, k, what);
-                }
-            }
-        }
-        for (int n = 0; n < x.many(1); n++) {
-            for (int what = 4; what <= 7; what++) {
-                d = d * 31 + x.ofNode(n, what);
-            }
-        }
-        for (int k = 0; k < x.many(3); k++) {
-            for (int what = 0; what <= 2; what++) {
-                d = d * 31 + x.fault(k, what);
-            }
-        }
-        for (int what = 0; what <= 10; what++) {
-            d = d * 31 + x.ofRun(what);
-        }
-        for (int k = 0; k < Math.min(50, x.ofRun(4)); k++) {
-            for (int what = 0; what <= 2; what++) {
-                d = d * 31 + x.printed(k, what);
-            }
-        }
-        for (int what = 0; what <= 2 && isRight; what++) {
-            d = d * 31 + x.with(0, what);
-        }
-        for (int what = 0; what <= 9 && isRight; what++) {
-            d = d * 31 + x.wouldRun(200, 10, what);
-        }
-        return d;
-    }
-
     private static void digests() {
         StaticLink empty = new StaticLink();
-        CHECK.due("digest of a new object", empty.digest(), digestOf(empty));
+        CHECK.due("digest of a new object", empty.digest(), Digest.of(empty));
         Build b = program();
-        CHECK.due("digest", b.x.digest(), digestOf(b.x));
+        CHECK.due("digest", b.x.digest(), Digest.of(b.x));
         b.x.passes(4);
         b.x.run();
         b.x.limits(50, 4);
         long before = b.x.digest();
-        CHECK.due("digest", before, digestOf(b.x));
+        CHECK.due("digest", before, Digest.of(b.x));
         CHECK.due("digest changes nothing", b.x.digest(), before);
         CHECK.due("the latest run", b.x.ofRun(3), 69);
         CHECK.due("runs", b.x.ofRun(10), 1);
         b.x.procedure(3, 7);
-        CHECK.due("digest with FAULTS", b.x.digest(), digestOf(b.x));
+        CHECK.due("digest with FAULTS", b.x.digest(), Digest.of(b.x));
     }
 }
