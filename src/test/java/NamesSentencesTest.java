@@ -226,6 +226,20 @@ public final class NamesSentencesTest {
         CHECK.state("MAIN has none", () -> x.parameter(0, 9, 0));
         CHECK.due("how many", x.ofProcedure(1, 2), 4);
         CHECK.due("of MAIN", x.ofProcedure(0, 2), 0);
+        CHECK.says("Throws IllegalStateException if it is MAIN, or has 4, or declares that NAME "
+            + "already, or has a VARIABLE");
+        for (int kind = 0; kind <= 3; kind++) {
+            StaticLink y = new StaticLink();
+            y.procedure(0, 0);
+            y.procedure(1, 1);
+            CHECK.due("a PROCEDURE in it does not matter", y.parameter(1, 2, 0), 0);
+            CHECK.state("a NAME that it has", () -> y.parameter(1, 1, 0));
+            y.variable(0, 3, 0, 0);
+            CHECK.due("a VARIABLE of its PARENT neither", y.parameter(1, 3, 0), 1);
+            y.variable(1, 4, kind, kind & 1);
+            CHECK.state("a VARIABLE of KIND " + kind, () -> y.parameter(1, 5, 0));
+            CHECK.due("how many", y.ofProcedure(1, 2), 2);
+        }
     }
 
     private static void atMostSixVariables() {

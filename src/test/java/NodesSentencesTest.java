@@ -712,6 +712,23 @@ public final class NodesSentencesTest {
             b.x.procedure(0, 1);
             CHECK.due("no longer unbound", b.x.ofNode(unbound, 6), 1);
         }
+        // What a TAIL is does not ask whether its CALL has another FAULT.
+        Build c = new Build();
+        c.x.variable(0, 9, 1, 2);
+        c.x.procedure(0, 0);
+        c.x.parameter(1, 1, 0);
+        int[] calls = {c.call(0), c.call(0, c.number(1), c.number(2)), c.call(0, c.array(9)),
+            c.call(0, c.use(15)), c.call(0, c.number(1))};
+        String[] faults = {"4 1 ", "4 1 ", "5 1 ", "1 1 ", ""};
+        for (int k = 0; k < calls.length; k++) {
+            int give = c.give(calls[k]);
+            c.x.body(0, c.print(c.number(0)));
+            c.x.body(1, give);
+            CHECK.due("its FAULT", c.faults(), faults[k].isEmpty() ? ""
+                : faults[k] + (k == 3 ? c.x.ofNode(c.x.ofNode(calls[k], 2), 2) : calls[k]));
+            CHECK.due("TAIL, with FAULT " + faults[k], c.x.ofNode(give, 6), 1);
+            CHECK.due("many(4)", c.x.many(4), 1);
+        }
     }
 
     private static void hopsOfNodes() {

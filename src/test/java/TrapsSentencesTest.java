@@ -500,8 +500,8 @@ public final class TrapsSentencesTest {
     private static void ofRun() {
         CHECK.says("of the latest run: 0 its TRAP (0), 1 the NODE of that (NONE), 2 the PROCEDURE "
             + "that this was IN (NONE), 3 STEPS, 4 how many numbers were PRINTED, 5 CALLS (how "
-            + "many FRAMES began, that of MAIN, too), 6 CELLS, 7 the most that were LIVE, 8 the most "
-            + "DEPTH, 9 what MAIN gave (0 with a TRAP); or 10 how many runs there were ever");
+            + "many FRAMES began, that of MAIN, too), 6 CELLS, 7 the most that were LIVE, 8 the "
+            + "most DEPTH, 9 what MAIN gave (0 with a TRAP); or 10 how many runs there were ever");
         Build b = new Build();
         b.x.variable(0, 0, 0, 0);
         b.x.procedure(0, 1);
