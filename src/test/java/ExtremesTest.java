@@ -1,3 +1,6 @@
+import com.sun.management.ThreadMXBean;
+import java.lang.management.ManagementFactory;
+
 /** Programs as great, and as deep, as they can be. */
 public final class ExtremesTest {
     private static final Check CHECK = new Check("ExtremesTest");
@@ -159,6 +162,7 @@ public final class ExtremesTest {
     // The dearest calls, as often as they can be made on one object, make nothing new: what was
     // made for the first of them serves all the others.
     private static void manyObjects() {
+        long before = made();
         Build b = new Build();
         b.x.procedure(0, 6);
         b.x.procedure(0, 7);
@@ -173,14 +177,18 @@ public final class ExtremesTest {
         CHECK.due("run()", b.x.run(), 6);
         CHECK.due("FRAMES", b.x.ofRun(5) > 700 ? 1 : 0, 1);
         long want = b.x.digest();
-        long before = used();
+        long atFirst = made() - before;
+        if (atFirst > 3_000_000) {
+            CHECK.fail("the dearest run made " + atFirst + " bytes");
+        }
+        before = made();
         for (int k = 0; k < 160; k++) {
             CHECK.due("digest()", b.x.digest(), want);
             CHECK.due("run()", b.x.run(), 6);
             want = b.x.digest();
         }
-        long made = used() - before;
-        if (made > 8_000_000) {
+        long made = made() - before;
+        if (made > 100_000) {
             CHECK.fail("as many calls as there can be made " + made + " bytes");
         }
     }
@@ -210,7 +218,9 @@ public final class ExtremesTest {
         CHECK.due("the 512th call", x.body(9, 109), 19);
     }
 
-    private static long used() {
-        return Runtime.getRuntime().totalMemory() - Runtime.getRuntime().freeMemory();
+    /** How many bytes this thread has made, ever. */
+    private static long made() {
+        ThreadMXBean threads = (ThreadMXBean) ManagementFactory.getThreadMXBean();
+        return threads.getCurrentThreadAllocatedBytes();
     }
 }
