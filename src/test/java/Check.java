@@ -36,10 +36,11 @@ final class Check {
         }
     }
 
-    /** Runs the program: its TRAP, and what it PRINTS. */
+    /** Runs the program: its TRAP, and what it PRINTS; and by its CODE, as that is told. */
     void run(Build b, String what, int trap, String printed) {
         due(what + ": run()", b.x.run(), trap);
         due(what + ": printed", b.printed(), printed);
+        ToldCode.compare(this, b.x, what);
     }
 
     void bounds(String call, Call made) {

@@ -174,10 +174,12 @@ public final class CodeTest {
         b.body(0, b.give(b.call(1, b.number(1))));
         CHECK.due("JUMPTO", b.code(1), "2 0 0 /2; 21 7 0 /0; 2 0 0 /5; 1 1 0 /1; 5 0 0 /0; "
             + "11 1 1 /0; 22 9 0 /0; 1 0 0 /4; 11 1 1 /0; 1 0 0 /0; 15 0 0 /0");
-        CHECK.due("MAIN has no TAIL", b.code(0), "1 1 0 /4; 9 0 1 /0; 15 0 0 /0; 1 0 0 /0; 15 0 0 /0");
+        CHECK.due("MAIN has no TAIL", b.code(0),
+            "1 1 0 /4; 9 0 1 /0; 15 0 0 /0; 1 0 0 /0; 15 0 0 /0");
         b.x.passes(5);
         CHECK.due("without TAIL", b.code(1), "2 0 0 /2; 21 8 0 /0; 2 0 0 /5; 1 1 0 /1; 5 0 0 /0; "
-            + "9 1 1 /0; 15 0 0 /0; 22 11 0 /0; 1 0 0 /4; 9 1 1 /0; 15 0 0 /0; 1 0 0 /0; 15 0 0 /0");
+            + "9 1 1 /0; 15 0 0 /0; 22 11 0 /0; 1 0 0 /4; 9 1 1 /0; 15 0 0 /0; "
+            + "1 0 0 /0; 15 0 0 /0");
     }
 
     private static void breaks() {

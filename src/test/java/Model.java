@@ -141,7 +141,7 @@ final class Model {
             case 'A': return v == NONE || isFree(v) && nodes.get(v).kind == 9;
             case 'e': return isFree(v) && nodes.get(v).kind <= 8;
             case 's': return isFree(v) && nodes.get(v).kind >= 12;
-            case 'h': return isFree(v) && isOneOf(nodes.get(v).kind, 0, 1, 2, 3, 4, 5, 6, 7, 8, 10, 11);
+            case 'h': return isFree(v) && nodes.get(v).kind <= 11 && nodes.get(v).kind != 9;
             case 'c': return isFree(v) && nodes.get(v).kind == 8;
             default: return isFree(v) && nodes.get(v).kind == 10;
         }
@@ -661,6 +661,7 @@ final class Model {
         Proc proc;
         Frame link;
         boolean isUncounted;
+        boolean hasEnded;
         final List<Object> slots = new ArrayList<>();
         final List<Mark> goingOn = new ArrayList<>();
     }
@@ -760,6 +761,7 @@ final class Model {
             } catch (Return r) {
                 return r.v;
             } finally {
+                f.hasEnded = true;
                 f.goingOn.clear();
                 depth--;
                 live -= f.isUncounted ? 0 : 1;
@@ -782,7 +784,9 @@ final class Model {
         }
 
         private Object slot(int n, Frame f) {
-            return up(f, hops[n]).slots.get(things[n].place);
+            Frame home = up(f, hops[n]);
+            rare[3] += home.hasEnded ? 1 : 0;
+            return home.slots.get(things[n].place);
         }
 
         private Cell element(int n, Frame f, int k, int trapped) {

@@ -2,34 +2,26 @@
  * Calls with any arguments, right and wrong ones, on new objects: what they answer and what they
  * throw is compared with the Model; a call that is refused must change nothing.
  */
-public final class RandomCallsTest {
+public final class RandomCallsTest extends Maker {
     private static final int[] EDGES = {-1, -2, 0, 1, 5, 9, 10, 15, 16, 21, 22, 99, 100, 109, 110,
         999, 1000, Integer.MAX_VALUE, Integer.MIN_VALUE};
 
-    private final Twin twin;
-    private long seed;
-
-    private RandomCallsTest(Check check, long seed) {
-        this.twin = new Twin(check);
-        this.seed = seed * 104729 + 3;
+    private RandomCallsTest(Check check, long number) {
+        super(check, number * 104729 + 3);
     }
 
-    public static void main(String[] args) {
-        int objects = args.length > 0 ? Integer.parseInt(args[0]) : 300;
+    public static void main(String[] args) throws InterruptedException {
         Check check = new Check("RandomCallsTest");
-        for (int k = 0; k < objects; k++) {
-            RandomCallsTest made = new RandomCallsTest(check, k);
-            for (int call = 0; call < 400; call++) {
-                made.call();
-            }
-            made.twin.askAll();
-        }
+        makeAll(check, many(args, 300), RandomCallsTest::new, new int[0], new int[0]);
         check.end();
     }
 
-    private int pick(int bound) {
-        seed = seed * 6364136223846793005L + 1442695040888963407L;
-        return (int) ((seed >>> 33) % bound);
+    @Override
+    void make() {
+        for (int call = 0; call < 400; call++) {
+            call();
+        }
+        twin.askAll();
     }
 
     private int any(int bound) {

@@ -5,69 +5,29 @@ import java.util.List;
  * Programs that a row of numbers makes up, of BREAKS, RETURNS, TAILS, what is BY NAME and kept
  * PROCS alone, in PROCEDURES that are INSIDE each other; compared with the Model.
  */
-public final class RandomJumpsTest {
+public final class RandomJumpsTest extends Maker {
     private static final int COUNTER = 0;
     private static final int FIRST_PROC = 1;
     private static final int FIRST_PROCEDURE = 4;
     private static final int BY_NAME = 15;
     private static final int USED_NODES = 96;
 
-    private final Twin twin;
-    private long seed;
     private int limit;
 
-    private RandomJumpsTest(Check check, long seed) {
-        this.twin = new Twin(check);
-        this.seed = seed * 6151 + 29;
+    private RandomJumpsTest(Check check, long number) {
+        super(check, number * 6151 + 29);
     }
 
     public static void main(String[] args) throws InterruptedException {
-        int programs = args.length > 0 ? Integer.parseInt(args[0]) : 1500;
         Check check = new Check("RandomJumpsTest");
-        int[] rare = new int[4];
-        int[] traps = new int[8];
-        // The Model is recursive, and the programs are deep.
-        Thread thread = new Thread(null, () -> makeAll(check, programs, rare, traps), "all",
-            1L << 29);
-        thread.start();
-        thread.join();
-        if (args.length > 0) {
-            System.out.println("rare " + java.util.Arrays.toString(rare) + ", traps "
-                + java.util.Arrays.toString(traps));
-        }
-        int[] due = {0, 3, 5, 6, 7};
-        for (int trap : due) {
-            if (traps[trap] == 0) {
-                check.fail("no program has the trap " + trap);
-            }
-        }
+        int[] traps = {0, 3, 5, 6, 7};
+        int[] rare = {FAR_BREAK, TAIL, BY_NAME_USED};
+        makeAll(check, many(args, 1500), RandomJumpsTest::new, traps, rare);
         check.end();
     }
 
-    private static void makeAll(Check check, int programs, int[] rare, int[] traps) {
-        try {
-            for (int k = 0; k < programs; k++) {
-                RandomJumpsTest made = new RandomJumpsTest(check, k);
-                made.make();
-                for (int j = 0; j < rare.length; j++) {
-                    rare[j] += made.twin.rare[j];
-                }
-                for (int j = 0; j < traps.length; j++) {
-                    traps[j] += made.twin.traps[j];
-                }
-            }
-        } catch (RuntimeException e) {
-            e.printStackTrace();
-            check.fail("a program ended with " + e);
-        }
-    }
-
-    private int pick(int bound) {
-        seed = seed * 6364136223846793005L + 1442695040888963407L;
-        return (int) ((seed >>> 33) % bound);
-    }
-
-    private void make() {
+    @Override
+    void make() {
         twin.variable(0, COUNTER, 0, 0);
         twin.variable(0, FIRST_PROC, 2, 0);
         twin.variable(0, FIRST_PROC + 1, 2, 0);

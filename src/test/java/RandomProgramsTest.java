@@ -5,66 +5,26 @@ import java.util.List;
  * Programs that a row of numbers makes up, most of them without faults, and all that can be asked
  * of them, compared with the Model.
  */
-public final class RandomProgramsTest {
+public final class RandomProgramsTest extends Maker {
     private static final int USED_NODES = 104;
 
-    private final Twin twin;
     private final int wrongOfHundred;
-    private long seed;
-    private int counters = 0;
 
-    private RandomProgramsTest(Check check, long seed, int wrongOfHundred) {
-        this.twin = new Twin(check);
-        this.seed = seed * 7919 + 17;
-        this.wrongOfHundred = wrongOfHundred;
+    private RandomProgramsTest(Check check, long number) {
+        super(check, number * 7919 + 17);
+        this.wrongOfHundred = number % 10 == 0 ? 4 : 0;
     }
 
     public static void main(String[] args) throws InterruptedException {
-        int programs = args.length > 0 ? Integer.parseInt(args[0]) : 1500;
         Check check = new Check("RandomProgramsTest");
-        int[] rare = new int[4];
-        int[] traps = new int[8];
-        // The Model is recursive, and the programs are deep.
-        Thread thread = new Thread(null, () -> makeAll(check, programs, rare, traps), "all",
-            1L << 29);
-        thread.start();
-        thread.join();
-        if (args.length > 0) {
-            System.out.println("rare " + java.util.Arrays.toString(rare) + ", traps "
-                + java.util.Arrays.toString(traps));
-        }
-        for (int k = 0; k < 8; k++) {
-            if (traps[k] == 0) {
-                check.fail("no program has the trap " + k);
-            }
-        }
+        int[] traps = {0, 1, 2, 3, 4, 5, 6, 7};
+        int[] rare = {FAR_BREAK, TAIL, BY_NAME_USED};
+        makeAll(check, many(args, 1500), RandomProgramsTest::new, traps, rare);
         check.end();
     }
 
-    private static void makeAll(Check check, int programs, int[] rare, int[] traps) {
-        try {
-            for (int k = 0; k < programs; k++) {
-                RandomProgramsTest made = new RandomProgramsTest(check, k, k % 10 == 0 ? 4 : 0);
-                made.make();
-                for (int j = 0; j < rare.length; j++) {
-                    rare[j] += made.twin.rare[j];
-                }
-                for (int j = 0; j < traps.length; j++) {
-                    traps[j] += made.twin.traps[j];
-                }
-            }
-        } catch (RuntimeException e) {
-            e.printStackTrace();
-            check.fail("a program ended with " + e);
-        }
-    }
-
-    private int pick(int bound) {
-        seed = seed * 6364136223846793005L + 1442695040888963407L;
-        return (int) ((seed >>> 33) % bound);
-    }
-
-    private void make() {
+    @Override
+    void make() {
         int procedures = pick(9) + (pick(3) == 0 ? 0 : 1);
         for (int k = 0; k < procedures && k < 9; k++) {
             twin.procedure(pick(3) == 0 ? 0 : pick(twin.model.procs.size()), pick(16));
@@ -122,14 +82,7 @@ public final class RandomProgramsTest {
         if (pick(100) < wrongOfHundred) {
             return pick(16);
         }
-        List<Integer> names = new ArrayList<>();
-        for (int name = 0; name <= 15; name++) {
-            Model.Thing t = twin.model.resolve(p, name);
-            if (t != null && those.indexOf("0123456789p".charAt(t.what)) >= 0) {
-                names.add(name);
-            }
-        }
-        return names.isEmpty() ? -1 : names.get(pick(names.size()));
+        return nameOf(p, those);
     }
 
     private boolean isRoom(int limit, int nodes) {
@@ -316,7 +269,6 @@ public final class RandomProgramsTest {
             int c = statements(p, limit, around, depth - 1);
             return twin.node(16, label, b, twin.node(12, 0, c, twin.node(17, label, 0, 0)));
         }
-        counters++;
         int b = twin.node(7, 0, twin.node(1, name, 0, 0), twin.node(0, 2 + pick(3), 0, 0));
         int one = twin.node(3, 0, twin.node(1, name, 0, 0), twin.node(0, 1, 0, 0));
         int set = twin.node(13, name, one, 0);

@@ -122,6 +122,7 @@ final class Twin {
         }
         Model.Run made = model.new Run(passes, most, deep);
         take("run()", 0, made.what[0], () -> link.run());
+        ToldCode.compare(check, link, "run()");
         latest = made;
         runs++;
         traps[made.what[0]]++;

@@ -125,7 +125,8 @@ public final class WouldBeTest {
         b.x.procedure(0, 5);
         b.body(3, b.set(0, b.use(3)), b.perform(b.call(2)), b.print(b.use(9)));
         b.body(2, b.print(b.use(0)), b.print(b.use(3)), b.print(b.number(0)));
-        b.body(1, b.print(b.use(3)), b.print(b.at(0, b.number(0))), b.loop(0, b.use(7), b.leave(0)));
+        b.body(1, b.print(b.use(3)), b.print(b.at(0, b.number(0))),
+            b.loop(0, b.use(7), b.leave(0)));
         b.body(0, b.count(0), b.perform(b.call(2)));
         b.print(b.use(0));
         hidden(b, 0, 0, 0);
