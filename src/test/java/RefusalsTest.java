@@ -59,7 +59,7 @@ public final class RefusalsTest {
 
     // PROCEDURES 0 to 2; NODES IN none: 0 and 1 NUMBERS, 2 and 3 BREAKS, 4 a CALL, 5 a TAKEN, 6 an
     // ARRAY NAME, 7 a NUMBER in 8, an ARGUMENT, and 9, in 10; and a program that has been run.
-    private static StaticLink right() {
+    static StaticLink right() {
         Build b = new Build();
         StaticLink x = b.x;
         b.number(1);
@@ -90,7 +90,7 @@ public final class RefusalsTest {
     }
 
     // The same with FAULTS, behind its run: 3 is without a BODY, 4 has two BREAKS and a NAME.
-    private static StaticLink faulty() {
+    static StaticLink faulty() {
         StaticLink x = right();
         x.procedure(0, 8);
         x.procedure(0, 9);
@@ -103,7 +103,7 @@ public final class RefusalsTest {
     }
 
     // 10 PROCEDURES, 4 PARAMETERS, 6 VARIABLES, 110 NODES.
-    private static StaticLink full() {
+    static StaticLink full() {
         Build b = new Build();
         StaticLink x = b.x;
         for (int k = 0; k < 9; k++) {
